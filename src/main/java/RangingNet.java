@@ -335,7 +335,7 @@ public final class RangingNet {
 
     private static void requirePair(int a, int b) {
         if (a == b) {
-            throw new IllegalArgumentException("a node stands for itself alone");
+            throw new IllegalArgumentException("the nodes are not all different");
         }
     }
 
