@@ -380,7 +380,7 @@ public final class RangingNet {
         }
         long numerator = axis == AXIS_X ? rightJ * yK - rightK * yJ : xJ * rightK - xK * rightJ;
         long coordinate = Math.floorDiv(numerator, determinant);
-        if (coordinate < Integer.MIN_VALUE || coordinate > Integer.MAX_VALUE) {
+        if (coordinate != (int) coordinate) {
             throw new ArithmeticException("the coordinate does not fit into an int");
         }
         return (int) coordinate;
